@@ -564,7 +564,7 @@ public final class DiamondBook {
     private int tenderWinner() {
         int winner = NONE;
         for (int buyer = 0; buyer < BUYERS; buyer++) {
-            // No bid is NONE, which is below every reserve.
+            // Who has not bid counts as NONE, which is below every reserve.
             if (sale.bidOf(buyer) >= sale.reserve && (winner == NONE || outbids(buyer, winner))) {
                 winner = buyer;
             }
