@@ -64,7 +64,7 @@ final class Books {
         return row(5, book::offered);
     }
 
-    /** Lets a buyer take or refuse boxes, each of its own making, so often; tells the conduct then. */
+    /** The conduct of a buyer who takes, or refuses, a box of so many makings. */
     static int conductAfter(DiamondBook book, int buyer, boolean isTaken, int times) {
         int conduct = DiamondBook.NONE;
         for (int time = 0; time < times; time++) {

@@ -38,8 +38,9 @@ final class Check {
         same(what, outcomeOf(call), exception);
     }
 
-    /** Each call of the face must throw this, and the object answer as before. */
-    static void isThrownAndNothingChanges(DiamondBook book, String exception, String what, Call call) {
+    /** What can be asked for must be as before; what shows in later calls, RefusalsTest looks at. */
+    static void isThrownAndNothingChanges(DiamondBook book, String exception, String what,
+            Call call) {
         String before = answersOf(book);
         isThrown(exception, what, call);
         same("the answers after " + what, answersOf(book), before);

@@ -1,9 +1,9 @@
-/** Promises 16 to 20: plans, cuts, cuts again, and what polished stones tell. */
+/**
+ * Promises 16 to 20: plans, cuts, cuts again, and what polished stones tell. The plans of all sets
+ * of flaws stand in EdgesOfCutsTest.
+ */
 public final class CutsTest {
-    private static final int CELLS = 12;
-
     public static void main(String[] args) {
-        plansOfAllSetsOfFlaws();
         plansAreForAnyStone();
         aCutMakesPolishedStones();
         aCutHasItsTimes();
@@ -19,27 +19,6 @@ public final class CutsTest {
         book.parcel(2);
         book.stone(0, weight, 1, 3, flaws);
         return book;
-    }
-
-    /** Each set of flaws there is: what is asked, and what is cut, must be the plan. */
-    private static void plansOfAllSetsOfFlaws() {
-        Model model = new Model();
-        for (int flaws = 0; flaws < 1 << CELLS; flaws++) {
-            DiamondBook book = withStone(1200, flaws);
-            int[][] due = model.planOf(flaws);
-            int worth = 0;
-            for (int[] part : due) {
-                worth += part[1] * part[1];
-            }
-            Check.same("plan of " + flaws, book.plan(0), worth);
-            Check.same("planAnew of " + flaws, book.planAnew(0), worth);
-            Check.same("cut of " + flaws, book.cut(0), due.length);
-            for (int gem = 0; gem < due.length; gem++) {
-                Check.same("first cell", book.polished(gem, 2), due[gem][0]);
-                Check.same("cells", book.polished(gem, 3), due[gem][1]);
-                Check.same("weight", book.polished(gem, 1), due[gem][1] * 60);
-            }
-        }
     }
 
     private static void plansAreForAnyStone() {

@@ -19,7 +19,7 @@ public final class EdgesOfCutsTest {
         noPolishedStonesOfIt();
         atMostEightyPolishedStones();
         numberedInTheOrderOfTheirCells();
-        theyBelongToWhoHadTheRoughOneOrToTheHouse();
+        theyBelongToWhoHadTheRoughOne();
         recutFrom1ToLessThanItsWeight();
         recutOfTheLeastWeights();
         theRestIsDust();
@@ -32,13 +32,16 @@ public final class EdgesOfCutsTest {
         return ALL_FLAWS & ~((1 << cells) - 1 << first);
     }
 
+    /** Worth by both plans, then the first cell and the cells of each polished stone. */
     private static String planned(int flaws) {
         DiamondBook book = Books.ofFlaws(1200, flaws);
         StringBuilder row = new StringBuilder();
         row.append(book.plan(0)).append(' ').append(book.planAnew(0)).append(':');
         int count = book.cut(0);
         for (int gem = 0; gem < count; gem++) {
-            row.append(' ').append(book.polished(gem, 2)).append('+').append(book.polished(gem, 3));
+            int cells = book.polished(gem, 3);
+            row.append(' ').append(book.polished(gem, 2)).append('+').append(cells);
+            Check.same("weight of " + cells + " cells", book.polished(gem, 1), 60 * cells);
         }
         Check.isThrown(Check.INDEX, "no polished stone more", () -> book.polished(count, 0));
         return row.toString();
@@ -272,7 +275,7 @@ public final class EdgesOfCutsTest {
     }
 
     // "they belong to who had the rough one, or to the house"
-    private static void theyBelongToWhoHadTheRoughOneOrToTheHouse() {
+    private static void theyBelongToWhoHadTheRoughOne() {
         for (int buyer = 0; buyer < 5; buyer++) {
             DiamondBook book = Books.ofFlaws(100, 64, 64, 64);
             book.tender(0, 0);

@@ -391,8 +391,8 @@ public final class EdgesOfLabsTest {
         }
     }
 
-    // "0 what came, 1 what is rough, SOLD or not, 2 what is polished, 3 dust, 4 what papers cover, 5
-    // how many papers are of another pit than the true one" (promise 24)
+    // "0 what came, 1 what is rough, SOLD or not, 2 what is polished, 3 dust, 4 what papers cover,
+    // 5 how many papers are of another pit than the true one" (promise 24)
     private static void eachSumOfAllWeights() {
         DiamondBook book = Books.ofSorted(100, 100, 100);
         book.parcel(1);

@@ -6,7 +6,7 @@ import java.nio.file.Path;
 import java.util.regex.Matcher;
 import java.util.regex.Pattern;
 
-/** Rules of ../shared/LANGUAGE.md that can be seen in the text of the program, or in its classes. */
+/** Rules of ../shared/LANGUAGE.md that can be seen in the program's text, or in its classes. */
 public final class LanguageTest {
     private static final Path PROGRAM = Path.of("src/main/java/DiamondBook.java");
 

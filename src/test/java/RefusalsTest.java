@@ -13,9 +13,9 @@ public final class RefusalsTest {
     private static final int CUT_ONE = 0, SOLD_ONE = 1, BOXED_ONE = 2, DOUBTFUL_ONE = 3,
         TENDERED_ONE = 4, FULLY_SORTED_ONE = 5, FLAWED_ONE = 6;
     private static final int PARCELS = 2, STONES = 7, GEMS = 3;
-    /** Polished stones of the busy book: graded, with a paper; of one look; of none, of weight 1. */
+    /** Its polished stones: with a grade and a paper, with one look, and of weight 1. */
     private static final int GRADED = 0, LOOKED_AT = 1, LEAST = 2;
-    /** Buyers of the busy book: that with a box, that with an empty one, that with none. */
+    /** Its buyers: with a box, with an empty one, and with none. */
     private static final int WITH_BOX = 1, WITH_EMPTY_BOX = 2, WITHOUT_BOX = 4;
 
     private interface Scene {
@@ -70,7 +70,7 @@ public final class RefusalsTest {
         refuses(RefusalsTest::busy, exception, what, call);
     }
 
-    /** The first ones beyond, the last ones that there are, and such that only a part of is right. */
+    /** The first ones beyond, the last of all numbers, and some that are right if cut short. */
     private static int[] beyond(int least, int most) {
         return new int[] {least - 1, most + 1, DEEP, FAR, DEEP + most, least + 256, least + 65536};
     }
